@@ -41,8 +41,14 @@ public final class PlayPool {
   private static final int BY_FLAGGED = 4;
   private static final int TOO_OFTEN = 5;
 
+  // The last number that may stand for WHAT is asked, call by call.
+  private static final int LAST_OF_TRACK = 3;
+  private static final int LAST_OF_LISTENER = 7;
+  private static final int LAST_OF_PARTY = 3;
+  private static final int LAST_OF_RECORDING = 6;
   private static final int LAST_OF_MANY = 17;
   private static final int FIRST_CARRY_OF_MANY = 14;
+  private static final int LAST_OF_CHART_IN_DIGEST = 1;
   private static final long DIGEST_START = 9106;
   private static final long DIGEST_FACTOR = 31;
 
@@ -631,7 +637,7 @@ public final class PlayPool {
   private long digestOfTracks(long start) {
     long d = start;
     for (int track = 0; track < catalogue.trackCount; track++) {
-      for (int what = 0; what <= 3; what++) {
+      for (int what = 0; what <= LAST_OF_TRACK; what++) {
         d = digestStep(d, ofTrack(track, what));
       }
     }
@@ -641,7 +647,7 @@ public final class PlayPool {
   private long digestOfListeners(long start) {
     long d = start;
     for (int listener = 0; listener < audience.count; listener++) {
-      for (int what = 0; what <= 7; what++) {
+      for (int what = 0; what <= LAST_OF_LISTENER; what++) {
         d = digestStep(d, ofListener(listener, what));
       }
       d = digestStep(d, suggestion(listener));
@@ -652,7 +658,7 @@ public final class PlayPool {
   private long digestOfParties(long start) {
     long d = start;
     for (int party = 0; party < PARTIES; party++) {
-      for (int what = 0; what <= 3; what++) {
+      for (int what = 0; what <= LAST_OF_PARTY; what++) {
         d = digestStep(d, ofParty(party, what));
       }
       for (int rule = 0; rule < RULES; rule++) {
@@ -665,7 +671,7 @@ public final class PlayPool {
   private long digestOfRecordings(long start) {
     long d = start;
     for (int recording = 0; recording < RECORDINGS; recording++) {
-      for (int what = 0; what <= 6; what++) {
+      for (int what = 0; what <= LAST_OF_RECORDING; what++) {
         d = digestStep(d, ofRecording(recording, what));
       }
       for (int rule = 0; rule < RULES; rule++) {
@@ -678,7 +684,7 @@ public final class PlayPool {
   private long digestOfCharts(long start) {
     long d = start;
     for (int land = 0; land < LANDS; land++) {
-      for (int k = 0; k <= 1; k++) {
+      for (int k = 0; k <= LAST_OF_CHART_IN_DIGEST; k++) {
         d = digestStep(d, charted(land, k));
       }
     }
@@ -977,10 +983,10 @@ public final class PlayPool {
     private final int[][] inMonth = new int[MOST_LISTENERS][RECORDINGS];
     private final int[][] onDay = new int[MOST_LISTENERS][RECORDINGS];
 
+    // Leaves onDay, which startDay() clears ahead of each DAY.
     private void clear() {
       clearRows(ever);
       clearRows(inMonth);
-      startDay();
     }
 
     private void startDay() {

@@ -28,6 +28,7 @@ public final class AskedTest {
     x.window(0, 3, 10, 30);
     x.play(0, 0, 0, 60);
     x.play(0, 0, 0, 20);
+    x.play(0, 0, 0, 20);
     is.eq("RECORDING", x.ofTrack(0, 0), 7);
     is.eq("DOWN", x.ofTrack(0, 1), -1);
     is.eq("LANDS", x.ofTrack(0, 2), 1 + 2);
@@ -67,6 +68,7 @@ public final class AskedTest {
     for (int what = 0; what <= 7; what++) {
       is.eq("ofListener(1, " + what + ")", x.ofListener(1, what), due[what]);
     }
+    is.eq("PLAYS of the first one", x.ofListener(0, 4), 1);
     x.flag(1, true);
     is.eq("FLAGGED", x.ofListener(1, 2), 1);
     is.eq("those that COUNT", x.ofListener(1, 5), 1);
@@ -239,6 +241,8 @@ public final class AskedTest {
     is.eqDouble("three, not rounded", x.meanSeconds(), 661.0 / 3);
     x.pass(14400);
     is.eqDouble("of any MONTH", x.meanSeconds(), 661.0 / 3);
+    PlayPool y = Houses.oneSong(0);
+    is.eqDouble("the first PLAY is among them", y.meanSeconds(), 60.0);
   }
 
   private static void promise22() {

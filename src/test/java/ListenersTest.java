@@ -12,6 +12,7 @@ public final class ListenersTest {
     promise12Offline();
     promise12FiveADay();
     promise12FiveOffline();
+    promise12FirstIsLatest();
     promise12ReasonOrder();
     promise12Limits();
     promise13();
@@ -39,6 +40,11 @@ public final class ListenersTest {
     is.argument("a 9th of no PLAN", () -> x.listener(0, 3));
     is.index("a 9th of no LAND", () -> x.listener(-1, 0));
     is.eq("8 of them", x.many(4), 8);
+    PlayPool y = new PlayPool();
+    y.listener(0, 0);
+    y.pass(14400);
+    y.listener(0, 0);
+    is.eq("a later one has paid nothing", y.ofListener(1, 7), 0);
   }
 
   private static void promise9() {
@@ -230,6 +236,18 @@ public final class ListenersTest {
     is.eq("five count again", x.many(6), 5);
   }
 
+  private static void promise12FirstIsLatest() {
+    PlayPool x = Houses.songs(1);
+    x.listener(0, 0);
+    x.keep(0, 0);
+    x.pass(50);
+    x.play(0, 0, 50, 60);
+    for (int i = 0; i < 5; i++) {
+      is.eq("earlier than the first one", x.play(0, 0, 40, 60), 0);
+    }
+    is.eq("five are earlier by now", x.ofPlay(0, 4), 5);
+  }
+
   private static void promise12ReasonOrder() {
     PlayPool x = new PlayPool();
     x.track(0);
@@ -263,6 +281,10 @@ public final class ListenersTest {
     is.index("a 131st of no TRACK", () -> x.play(0, 1, 0, 60));
     is.eq("130 of them", x.many(5), 130);
     is.eq("five count", x.many(6), 5);
+    is.eq("too often", x.reasons(5), 125);
+    is.eq("all are its own", x.ofListener(0, 4), 130);
+    is.eq("those of it that COUNT", x.ofTrack(0, 3), 5);
+    is.eqDouble("the mean of a full log", x.meanSeconds(), 60.0);
     x.pass(14400);
     is.state("CLOSED ones are among them", () -> x.play(0, 0, 14400, 60));
   }

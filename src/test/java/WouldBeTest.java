@@ -6,8 +6,11 @@ public final class WouldBeTest {
     promise24();
     promise24Hearable();
     promise24Ties();
+    promise24Unheard();
+    promise24Full();
     promise25();
     promise26();
+    promise26Again();
     promise27();
     promise27Order();
     is.end("promises 24 to 27");
@@ -86,6 +89,40 @@ public final class WouldBeTest {
     is.eq("the sum counts", x.next(0), 3);
   }
 
+  private static void promise24Unheard() {
+    PlayPool x = Houses.songs(4);
+    for (int listener = 0; listener < 4; listener++) {
+      x.listener(0, 0);
+    }
+    x.play(0, 0, 0, 60);
+    x.play(1, 0, 0, 60);
+    x.play(1, 1, 0, 60);
+    x.play(2, 2, 0, 60);
+    x.play(2, 3, 0, 60);
+    x.play(3, 2, 0, 60);
+    x.play(3, 3, 0, 60);
+    is.eq("ALIKE to what it has not heard is nothing", x.next(0), 1);
+  }
+
+  private static void promise24Full() {
+    PlayPool x = new PlayPool();
+    for (int track = 0; track < 14; track++) {
+      x.track(9 - track % 10);
+    }
+    for (int listener = 0; listener < 8; listener++) {
+      x.listener(listener % 2, listener % 3);
+    }
+    is.eq("none is ALLOWED", x.next(7), -1);
+    x.window(13, 1, 0, 99999);
+    is.eq("by its last TRACK", x.next(7), 6);
+    x.play(7, 13, 0, 60);
+    is.eq("the POOL of four", x.wouldGet(6, 0), 700 + 140 + 350 + 700);
+    is.eq("the chart of a full house", x.chart(1, 0), 6);
+    is.eq("no PAY", x.pass(14400), 0);
+    is.eq("the BOX of a full house", x.many(9), 1890);
+    is.eq("the last LISTENER pays", x.ofListener(7, 7), 1000);
+  }
+
   private static void promise25() {
     PlayPool x = Houses.twoSongs();
     is.eq("by LAND", x.wouldGet(0, 0), 630);
@@ -151,6 +188,16 @@ public final class WouldBeTest {
     is.argument("wouldPay", () -> x.wouldPay(0, -1));
     is.argument("wouldPay", () -> x.wouldPay(0, 2));
     is.index("PARTY ahead of RULE", () -> x.wouldPay(5, 2));
+  }
+
+  private static void promise26Again() {
+    PlayPool x = Houses.oneSong(1);
+    x.claim(0, 0, 100);
+    x.pass(14400);
+    is.eq("what was PAID is not PAID again", x.wouldPay(0, 0), 0);
+    x.play(0, 0, 14400, 60);
+    is.eq("what was got is not got again", x.wouldGet(0, 0), 700);
+    is.eq("this MONTH alone", x.wouldPay(0, 0), 700);
   }
 
   private static void promise27() {
