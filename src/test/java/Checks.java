@@ -1,3 +1,5 @@
+import java.util.List;
+
 /** Counts what a test program checked, and ends it with 1 if something was wrong. */
 final class Checks {
   interface Call {
@@ -17,6 +19,19 @@ final class Checks {
 
   void eqText(String what, String got, String want) {
     note(got.equals(want), what + " answered\n  " + got + "\n, due is\n  " + want);
+  }
+
+  void eqLines(String what, List<String> got, List<String> want) {
+    int line = 0;
+    while (line < got.size() && line < want.size() && got.get(line).equals(want.get(line))) {
+      line++;
+    }
+    note(line == got.size() && line == want.size(), what + ": line " + line + " is "
+        + lineOf(got, line) + ", due is " + lineOf(want, line));
+  }
+
+  private static String lineOf(List<String> lines, int line) {
+    return line < lines.size() ? lines.get(line) : "the end";
   }
 
   void index(String what, Call call) {

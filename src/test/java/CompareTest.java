@@ -7,7 +7,8 @@ import java.util.List;
 /** Runs of calls drawn by a fixed seed, each answered by PlayPool and by PlainHouse alike. */
 public final class CompareTest {
   private static final int RUNS = 600;
-  private static final int CALLS = 512;
+  // And the digest is the 512th.
+  private static final int CALLS = 511;
 
   private static final Checks is = new Checks();
   private static long seed = 20261119;
@@ -59,7 +60,7 @@ public final class CompareTest {
     }
   }
 
-  private static Object[] arguments(String name, PlayPool x, int style) {
+  private static Object[] arguments(String name, PlainHouse x, int style) {
     int recordings = style % 3 == 0 ? 10 : 4;
     int now = x.many(0);
     switch (name) {
@@ -163,7 +164,7 @@ public final class CompareTest {
     StringBuilder told = new StringBuilder();
     for (int call = 0; call < CALLS; call++) {
       String name = nameOfCall(call, all);
-      Object[] arguments = arguments(name, x, run);
+      Object[] arguments = arguments(name, y, run);
       Object got = answer(x, methodOf(PlayPool.class, name), arguments);
       Object due = answer(y, methodOf(PlainHouse.class, name), arguments);
       told.append(name).append(Arrays.toString(arguments)).append(" -> ").append(got).append('\n');
