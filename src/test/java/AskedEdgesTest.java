@@ -613,8 +613,11 @@ public final class AskedEdgesTest {
     x.play(2, 2, 0, 60);
     is.eq("two and one", x.next(0), 2);
     x.pass(MONTH);
+    is.eq("two and one, of any MONTH", x.next(0), 2);
     x.play(1, 1, MONTH, 60);
-    is.eq("two each, of any MONTH", x.next(0), 1);
+    is.eq("two each", x.next(0), 1);
+    x.play(2, 2, MONTH, 60);
+    is.eq("three and two", x.next(0), 2);
   }
 
   private static void nextByTheSmallestNumber() {

@@ -46,7 +46,7 @@ public final class CompareTest {
   }
 
   private static int minutes(int now, int pace) {
-    switch (below(10)) {
+    switch (below(pace < 100 ? 20 : 11)) {
       case 0:
         return 14400 - now % 14400;
       case 1:
@@ -55,21 +55,25 @@ public final class CompareTest {
         return oneOf(14399, 14400, 14401, 20000);
       case 3:
         return oneOf(0, -1, 20001, 1);
+      case 10:
+        return oneOf(99999 - now, 100000 - now, 20000);
       default:
         return 1 + below(pace);
     }
   }
 
   private static Object[] arguments(String name, PlainHouse x, int style) {
-    int recordings = style % 3 == 0 ? 10 : 4;
+    boolean fullDay = style % PACES.length == 0;
+    int lands = fullDay ? 1 : style % 2 == 0 ? 2 : 4;
+    int recordings = fullDay ? 2 : style % 3 == 0 ? 10 : 4;
     int now = x.many(0);
     switch (name) {
       case "track":
         return new Object[] {number(recordings)};
       case "window":
-        int from = oneOf(0, 0, 0, below(100000), now, now - below(2000), 99999, 100000);
+        int from = oneOf(0, 0, 0, 0, now, now - below(2000), below(100000), 99999, 100000);
         int to = oneOf(99999, 99999, from, from + below(30000), from - 1, now, 100000);
-        return new Object[] {number(x.many(2)), number(style % 2 == 0 ? 2 : 4), from, to};
+        return new Object[] {number(x.many(2)), number(lands), from, to};
       case "down":
         return new Object[] {number(x.many(2)), below(2) == 0};
       case "claim":
@@ -80,7 +84,7 @@ public final class CompareTest {
       case "rule":
         return new Object[] {number(2)};
       case "listener":
-        return new Object[] {number(style % 2 == 0 ? 2 : 4), number(3)};
+        return new Object[] {number(lands), number(3)};
       case "plan":
         return new Object[] {number(x.many(4)), number(3)};
       case "flag":
@@ -91,7 +95,7 @@ public final class CompareTest {
         return new Object[] {number(x.many(4)), number(x.many(2)), minute(now),
             oneOf(30, 29, 60, 100, 240, 600, below(601), below(8) == 0 ? 601 : 31, 90, 180)};
       case "pass":
-        return new Object[] {minutes(now, style % 5 < 3 ? 300 : 3000)};
+        return new Object[] {minutes(now, PACES[style % PACES.length])};
       case "ofTrack":
         return new Object[] {number(x.many(2)), number(4)};
       case "ofListener":
@@ -121,6 +125,11 @@ public final class CompareTest {
     }
   }
 
+  // How many minutes go by at once: in the first kind of run a DAY sees many PLAYS.
+  private static final int[] PACES = {60, 300, 300, 3000, 3000};
+  private static final String[] ON_A_FULL_DAY = {"play", "play", "play", "play", "play", "play",
+      "play", "play", "play", "play", "play", "play", "play", "window", "pass", "pass", "flag",
+      "down", "down", "keep", "keep", "keep", "chart", "next", "wouldPay", "wouldGet"};
   private static final String[] OFTEN = {"play", "play", "play", "play", "play", "play", "play",
       "pass", "pass", "window", "keep", "keep", "flag", "down", "down", "claim", "claim", "plan",
       "rule", "advance", "next", "chart", "wouldPay", "wouldGet", "alike"};
@@ -144,14 +153,16 @@ public final class CompareTest {
     throw new IllegalArgumentException(name);
   }
 
-  private static String nameOfCall(int call, List<String> all) {
-    if (call < 45) {
+  private static String nameOfCall(int run, int call, List<String> all) {
+    boolean fullDay = run % PACES.length == 0;
+    if (call < (fullDay ? 15 : 45)) {
       return oneOfTexts(AT_FIRST);
     }
     if (call % 40 == 39) {
       return "digest";
     }
-    return below(6) == 0 ? all.get(below(all.size())) : oneOfTexts(OFTEN);
+    return below(fullDay ? 30 : 6) == 0 ? all.get(below(all.size()))
+        : oneOfTexts(fullDay ? ON_A_FULL_DAY : OFTEN);
   }
 
   private static String oneOfTexts(String[] texts) {
@@ -163,7 +174,7 @@ public final class CompareTest {
     PlainHouse y = new PlainHouse();
     StringBuilder told = new StringBuilder();
     for (int call = 0; call < CALLS; call++) {
-      String name = nameOfCall(call, all);
+      String name = nameOfCall(run, call, all);
       Object[] arguments = arguments(name, y, run);
       Object got = answer(x, methodOf(PlayPool.class, name), arguments);
       Object due = answer(y, methodOf(PlainHouse.class, name), arguments);

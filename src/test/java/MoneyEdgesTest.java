@@ -48,6 +48,7 @@ public final class MoneyEdgesTest {
     heldByTheClaimsOfTheEnd();
     heldOfOneRecordingAlone();
     heldOfEachRecording();
+    heldGoesIntoTheBoxWithoutClaims();
     partsAreRoundedDown();
     boxWithoutClaims();
     lastPartyHasAll();
@@ -461,6 +462,20 @@ public final class MoneyEdgesTest {
       is.eq("is PAID", x.pass(MONTH), 700);
       is.eq("not HELD", x.ofRecording(recording, 2), 0);
     }
+  }
+
+  private static void heldGoesIntoTheBoxWithoutClaims() {
+    PlayPool x = Houses.oneSong(1);
+    x.claim(0, 0, 100);
+    x.claim(0, 1, 100);
+    x.pass(MONTH);
+    is.eq("HELD", x.many(10), 700);
+    x.claim(0, 0, 0);
+    x.claim(0, 1, 1);
+    is.eq("nobody is PAID", x.pass(MONTH), 0);
+    is.eq("nothing is HELD", x.many(10), 0);
+    is.eq("DUE", x.many(11), 7);
+    is.eq("the BOX", x.many(9), 693);
   }
 
   // Of 140: 1 hundredth is 1 (1.4), 99 are 138 (138.6), 5 are 7, 6 are 8 (8.4).

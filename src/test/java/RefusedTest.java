@@ -72,14 +72,14 @@ public final class RefusedTest {
     wrongArgumentsOfWhatIsThere();
     wrongQuestions();
     wrongQuestionsOfWhatIsThere();
-    state("down(2, true)", x -> x.down(2, true));
+    state("down(2, true), a while later", x -> x.down(2, true));
     state("down(0, false)", x -> x.down(0, false));
     state("keep(0, 0), KEPT", x -> x.keep(0, 0));
     state("keep(0, 1), KEPT", x -> x.keep(0, 1));
     state("keep(0, 3), not ALLOWED", x -> x.keep(0, 3));
     state("keep(1, 0), not ALLOWED there", x -> x.keep(1, 0));
     state("keep(0, 2), DOWN", x -> x.keep(0, 2));
-    argument("play of a minute to come", x -> x.play(0, 0, MONTH + 101, 60));
+    argument("play of a minute to come", x -> x.play(0, 0, MONTH + 108, 60));
     state("play of a CLOSED MONTH", x -> x.play(0, 0, MONTH - 1, 60));
     state("play of a CLOSED MONTH", x -> x.play(0, 0, 0, 60));
     state("play of what is not KEPT", x -> x.play(0, 2, MONTH + 99, 60));
@@ -92,9 +92,15 @@ public final class RefusedTest {
     wrongNumbers(14, 8, 130);
     wrongArguments();
     wrongArgumentsOfWhatIsThere();
-    state("a 15th TRACK", x -> x.track(0));
+    for (int recording = 0; recording <= 9; recording++) {
+      int one = recording;
+      state("a 15th TRACK, of " + one, x -> x.track(one));
+    }
     state("a 31st WINDOW", x -> x.window(13, 0, 0, LAST));
-    state("a 9th LISTENER", x -> x.listener(0, 0));
+    state("a 31st WINDOW, a short one", x -> x.window(0, 1, 0, 0));
+    state("a 9th LISTENER, FREE", x -> x.listener(3, 0));
+    state("a 9th LISTENER, PAID", x -> x.listener(2, 1));
+    state("a 9th LISTENER, a STUDENT", x -> x.listener(0, 2));
     state("a 131st PLAY", x -> x.play(0, 0, 0, 60));
     state("a 131st PLAY, too short", x -> x.play(7, 13, 0, 0));
     for (int track = 1; track <= 3; track++) {
@@ -311,12 +317,13 @@ public final class RefusedTest {
     x.pass(MONTH + 100);
     x.down(2, true);
     x.flag(1, true);
+    x.pass(7);
     return x;
   }
 
   private static String goOn(PlayPool x) {
     String first = x.play(0, 1, MONTH, 60) + " " + x.play(0, 0, MONTH + 50, 60) + " "
-        + x.play(0, 2, MONTH + 100, 60) + " " + x.down(2, false) + " " + x.keep(0, 2) + " "
+        + x.play(0, 2, MONTH + 107, 60) + " " + x.down(2, false) + " " + x.keep(0, 2) + " "
         + x.window(3, 0, 0, LAST) + " " + x.keep(0, 3) + " " + x.play(0, 1, MONTH + 99, 60);
     String then = x.flag(1, false) + " " + x.wouldPay(0, 1) + " " + x.claim(1, 2, 0) + " "
         + x.advance(4, 1) + " " + x.plan(1, 0) + " " + x.pass(MONTH) + " " + x.rule(1) + " "

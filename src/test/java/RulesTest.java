@@ -45,11 +45,11 @@ public final class RulesTest {
     "long digest()"
   };
 
-  // The rules allow some of these; PlayPool does without all of them.
-  private static final Pattern NOT_IN_IT = Pattern.compile("\\b(catch|try|finally|synchronized"
-      + "|assert|volatile|native|instanceof|yield|var|equals|hashCode|toString|package|interface"
-      + "|extends|record|System\\.(?!arraycopy)\\w+|Random|NullPointerException"
-      + "|ArrayIndexOutOfBounds\\w*|\\w+Exact)\\b|->|::");
+  // Rules 2 to 6 and 13; an arrow may stand in a switch alone.
+  private static final Pattern NOT_IN_IT = Pattern.compile("\\b(finally|synchronized|assert"
+      + "|volatile|native|package|System\\.(?!arraycopy)\\w+|Random|NullPointerException"
+      + "|ArrayIndexOutOfBounds\\w*|ClassCast\\w*|NegativeArraySize\\w*|ArrayStore\\w*"
+      + "|getMessage|\\w+Exact)\\b|::|^(?!\\s*(case|default)\\b).*->");
 
   private static final String[] IMPORTS = {"java.util.Arrays", "java.util.ArrayList",
       "java.util.List", "java.util.Iterator", "java.util.NoSuchElementException"};

@@ -41,6 +41,7 @@ public final class ThrowOrderTest {
       is.index("window: LAND ahead of 30", () -> x.window(0, bad, 0, 0));
       is.index("window: LAND ahead of from", () -> x.window(0, bad, 100000, 100000));
       is.index("window: LAND ahead of to", () -> x.window(0, bad, 0, 100000));
+      is.index("window: LAND ahead of to below from", () -> x.window(0, bad, 5, 4));
     }
     is.argument("window: from -1 ahead of 30", () -> x.window(0, 0, -1, 0));
     is.argument("window: from 100000 ahead of 30", () -> x.window(0, 0, 100000, 100000));
