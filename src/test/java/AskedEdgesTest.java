@@ -57,6 +57,7 @@ public final class AskedEdgesTest {
     numbersOfNext();
     nextOfTheLastRecording();
     nextByTheGreatestSum();
+    nextHoweverOftenHeard();
     nextByEachThatIsHeard();
     nextByOneTrackThatIsBoth();
     nextByMostPlays();
@@ -559,6 +560,22 @@ public final class AskedEdgesTest {
     is.eq("as much, and as many PLAYS", nextAfter(new int[] {0, 2}, new int[] {1, 3}), 2);
     is.eq("3 and 4 ALIKE to what is not heard, 2 by 0 once",
         nextAfter(new int[] {3, 4}, new int[] {3, 4}, new int[] {0, 2}), 2);
+  }
+
+  private static void nextHoweverOftenHeard() {
+    PlayPool x = Houses.songs(4);
+    for (int listener = 0; listener < 4; listener++) {
+      x.listener(0, 0);
+    }
+    Houses.plays(x, 0, 0, 0, 5);
+    x.play(0, 1, 0, 60);
+    x.play(1, 0, 0, 60);
+    x.play(1, 2, 0, 60);
+    for (int listener = 2; listener <= 3; listener++) {
+      x.play(listener, 1, 0, 60);
+      x.play(listener, 3, 0, 60);
+    }
+    is.eq("3 by two, and 2 by one that is heard five times", x.next(0), 3);
   }
 
   // To one who heard one RECORDING alone, another is ALIKE by that, and a third has more PLAYS.
