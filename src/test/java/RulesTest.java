@@ -6,9 +6,12 @@ import java.nio.file.Files;
 import java.nio.file.Path;
 import java.util.ArrayList;
 import java.util.Arrays;
+import java.util.HashMap;
 import java.util.HashSet;
 import java.util.List;
+import java.util.Map;
 import java.util.Set;
+import java.util.regex.Matcher;
 import java.util.regex.Pattern;
 
 /** The public face, and those rules of LANGUAGE.md that can be seen by a plain look. */
@@ -54,6 +57,12 @@ public final class RulesTest {
   private static final String[] IMPORTS = {"java.util.Arrays", "java.util.ArrayList",
       "java.util.List", "java.util.Iterator", "java.util.NoSuchElementException"};
 
+  private static final Pattern METHOD =
+      Pattern.compile("(  |    )(?:public|private) (?:static )?[\\w\\[\\]]+ (\\w+)\\(.*");
+  private static final Pattern CALLED = Pattern.compile("\\b(\\w+)\\(");
+  private static final Pattern MADE_ONCE =
+      Pattern.compile("\\s*(throw|private (static )?final .*=) new .*");
+
   private static final Checks is = new Checks();
 
   public static void main(String[] args) throws Exception {
@@ -63,7 +72,9 @@ public final class RulesTest {
     for (Class<?> inside : PlayPool.class.getDeclaredClasses()) {
       fields(inside);
     }
-    text(Files.readAllLines(Path.of(SOURCE)));
+    List<String> lines = Files.readAllLines(Path.of(SOURCE));
+    text(lines);
+    depths(lines);
     is.end("the face and the rules");
   }
 
@@ -148,7 +159,39 @@ public final class RulesTest {
       } else if (!line.strip().startsWith("/**")) {
         String code = line.replaceAll("\"[^\"]*\"", "\"\"").replaceAll("//.*", "");
         is.note(!NOT_IN_IT.matcher(code).find(), "not in this Java, " + where);
+        // What every run shares is a room for objects, so calls make none but exceptions.
+        is.note(!code.matches(".*\\bnew\\b.*") || MADE_ONCE.matcher(code).matches(),
+            "made by a call, " + where);
       }
     }
+  }
+
+  // Rules 8 and 11, by names alone: methods of one name in two classes are taken for one.
+  private static void depths(List<String> lines) {
+    Map<String, StringBuilder> bodies = new HashMap<>();
+    StringBuilder body = new StringBuilder();
+    for (String line : lines) {
+      Matcher method = METHOD.matcher(line);
+      if (method.matches()) {
+        body = bodies.computeIfAbsent(method.group(2), name -> new StringBuilder());
+      } else {
+        body.append(line).append('\n');
+      }
+    }
+    is.note(bodies.size() > 60, "only " + bodies.size() + " methods were seen");
+    for (String name : bodies.keySet()) {
+      is.note(depthOf(name, bodies, 1) <= 8, name + " calls itself, or goes too deep");
+    }
+  }
+
+  private static int depthOf(String name, Map<String, StringBuilder> bodies, int depth) {
+    int deepest = depth;
+    Matcher called = CALLED.matcher(bodies.get(name));
+    while (depth <= 8 && called.find()) {
+      if (bodies.containsKey(called.group(1))) {
+        deepest = Math.max(deepest, depthOf(called.group(1), bodies, depth + 1));
+      }
+    }
+    return deepest;
   }
 }
